@@ -1,0 +1,57 @@
+/** Counts answers that are not the ones due, and tells them. */
+final class Checks {
+    interface Call {
+        long answer();
+    }
+
+    private final String name;
+    private int made;
+    private int wrong;
+
+    Checks(String name) {
+        this.name = name;
+    }
+
+    void due(String what, long want, long got) {
+        made++;
+        if (got != want) {
+            tell(what + " answered " + got + ", due is " + want);
+        }
+    }
+
+    void due(String what, String want, String got) {
+        made++;
+        if (!want.equals(got)) {
+            tell(what + " answered " + got + ", due is " + want);
+        }
+    }
+
+    void thrown(String what, Class<? extends RuntimeException> want, Call call) {
+        made++;
+        try {
+            tell(what + " answered " + call.answer() + ", due is " + want.getSimpleName());
+        } catch (RuntimeException e) {
+            if (e.getClass() != want) {
+                tell(what + " throws " + e + ", due is " + want.getSimpleName());
+            }
+        }
+    }
+
+    boolean isRight() {
+        return wrong == 0;
+    }
+
+    void end() {
+        System.out.println(name + ": " + made + " checks, " + wrong + " not as due");
+        if (wrong != 0 || made == 0) {
+            System.exit(1);
+        }
+    }
+
+    private void tell(String text) {
+        wrong++;
+        if (wrong <= 50) {
+            System.out.println(name + ": " + text);
+        }
+    }
+}
