@@ -36,6 +36,7 @@ public final class PromiseTest {
         keepAndGoBack();
         undo();
         undoIsForMarkedCallsOnly();
+        allIsRestored();
         tileOf();
         hand();
         stock();
@@ -333,6 +334,10 @@ public final class PromiseTest {
         due("refused", 1, x.count(9));
         due("refused is saved", 1, x.count(11));
         due("still on the move", 0, x.count(1));
+        for (int i = 0; i < 17; i++) {
+            x.draw();
+        }
+        due("there is one tile of stock", 5, x.pass());
         RustTiles empty = withEmptyStock();
         empty.set(5);
         due("first pass", 10, empty.pass());
@@ -557,6 +562,10 @@ public final class PromiseTest {
         due("the third does not match", 1, x.count(9));
         write(x, "l27c<");
         due("no such place", 0, x.run());
+        write(x, "l9c<");
+        due("place 9", 1, x.run());
+        dueRow(x, 2, 1, 2, 3, 14);
+        x.undo();
         write(x, "l11b<");
         due("place 11", 1, x.run());
         dueRow(x, 1, 2, 6, 5, 6);
@@ -658,6 +667,40 @@ public final class PromiseTest {
         x.append('d');
         x.run();
         due("marked too", 6, x.count(11));
+    }
+
+    private static void allIsRestored() {
+        RustTiles x = new RustTiles();
+        x.set(4);
+        write(x, "l0a<;l4a<;d;d;d;d;d;d;d;d;d;d;d;d;d;d;d;d;d;d;d;d");
+        due("turns of the text", 20, x.run());
+        write(x, "p;l12b>;p;d");
+        due("turns of the next text", 3, x.run());
+        due("a pass is open", 1, x.count(6));
+        long before = x.digest();
+        x.begin(4, 77);
+        due("no pass is open", 0, x.count(6));
+        x.set(1);
+        x.lay(0, 0, 0);
+        for (int i = 0; i < 3; i++) {
+            x.undo();
+        }
+        due("undo restores all", before, x.digest());
+        for (int i = 0; i < 4; i++) {
+            x.set(4);
+        }
+        x.keep(1);
+        before = x.digest();
+        x.begin(3, 78);
+        x.set(1);
+        x.draw();
+        x.pass();
+        x.goBack(1);
+        due("goBack restores all", before, x.digest());
+        x.set(2);
+        x.lay(0, 2, 0);
+        x.goBack(1);
+        due("the snapshot is not played on", before, x.digest());
     }
 
     // ---- promise 15
@@ -800,7 +843,8 @@ public final class PromiseTest {
         x.pass();
         x.draw();
         x.pass();
-        int[] counts = {3, 2, 12, 15, 1, 2, 0, 9, -1, 2, 7644, 6};
+        x.draw();
+        int[] counts = {3, 0, 11, 16, 1, 3, 0, 15, -1, 2, 7644, 6};
         for (int what = 0; what < counts.length; what++) {
             due("count(" + what + ")", counts[what], x.count(what));
         }
@@ -921,6 +965,12 @@ public final class PromiseTest {
         // Player 0 has 4-6 2-6 0-4 0-2.
         dueWhole(ring, 0, 1, 0, 1, 0, 1, 0, 1);
         dueWhole(overByLaying(), 0, 1, 1, 1, 1, 1, 1, 1);
+        RustTiles apart = new RustTiles();
+        apart.set(9);
+        apart.draw();
+        apart.lay(4, 0, 0);
+        // Player 1 has 0-0 5-6 2-2 2-5.
+        dueWhole(apart, 1, 0, 0, 0, 0, 0, 0, 0);
         for (int player : new int[] {-1, 2, MIN, MAX}) {
             checks.thrown("whole(" + player + ", 0, 0)", INDEX, () -> x.whole(player, 0, 0));
             checks.thrown("whole(" + player + ", 7, 2)", INDEX, () -> x.whole(player, 7, 2));
@@ -991,11 +1041,23 @@ public final class PromiseTest {
         filled.lay(0, 0, 1);
         filled.draw();
         due("3-5 fits nothing", -1, filled.advice());
+        // Rows open with 4 6, 3 6 and 0 0: of 2-2 2-5 4-4 just one fits, and at one end.
+        dueAdvice("l2b<;l0c<;l0a<;l0b>;d", 2);
+        // Rows open with 4 6, 3 2 and 0 0: 5-6 fits at one end alone.
+        dueAdvice("l2b<;l0c<;l0a<;l2b>;d", 0);
         due("over", -1, overByLaying().advice());
         RustTiles passed = withEmptyStock();
         passed.pass();
         passed.pass();
         due("over with empty rows", -1, passed.advice());
+    }
+
+    private static void dueAdvice(String text, int want) {
+        RustTiles x = new RustTiles();
+        x.set(9);
+        write(x, text);
+        due("turns of " + text, 5, x.run());
+        due("advice behind " + text, want, x.advice());
     }
 
     // ---- promise 26
@@ -1005,6 +1067,14 @@ public final class PromiseTest {
         due("of all alike the greatest", 6, x.commonest());
         x.lay(0, 0, 0);
         due("4 and 6 are laid", 5, x.commonest());
+        RustTiles noughts = new RustTiles();
+        noughts.set(1);
+        for (int i = 0; i < 10; i++) {
+            noughts.draw();
+        }
+        due("15 noughts, those of 0-0 too, and 14 ones", 0, noughts.commonest());
+        noughts.draw();
+        due("16 noughts and 17 ones", 1, noughts.commonest());
         RustTiles rusty = new RustTiles();
         rusty.set(1);
         rusty.draw();
