@@ -48,7 +48,6 @@ public final class RustTiles {
     private static final int PLAYER_PROPERTIES = 7;
     private static final int NUMBERS = 12;
     private static final int WAYS_TO_TELL = 2;
-    private static final int SAVED_STATES = 11;
 
     // What a turn answers.
     private static final int FITS = 0;
@@ -226,7 +225,7 @@ public final class RustTiles {
 
     public int count(int what) throws IllegalArgumentException {
         requireWhat(what, NUMBERS);
-        return numberOf(what);
+        return game.numberOf(what, past.size);
     }
 
     public int setting() {
@@ -276,7 +275,7 @@ public final class RustTiles {
     public long digest() {
         long hash = 3463;
         for (int what = 0; what < NUMBERS; what++) {
-            hash = 31 * hash + numberOf(what);
+            hash = 31 * hash + game.numberOf(what, past.size);
         }
         hash = 31 * hash + game.interval;
         hash = game.tiles.mixInto(hash);
@@ -334,11 +333,7 @@ public final class RustTiles {
         }
     }
 
-    // ---- helpers of the digest and of count()
-
-    private int numberOf(int what) {
-        return what == SAVED_STATES ? past.size : game.gameNumber(what);
-    }
+    // ---- helpers of the digest
 
     private long mixPlayer(long start, int player) {
         long hash = start;
@@ -398,7 +393,10 @@ public final class RustTiles {
         }
 
         void increase(int row, int column, int by) {
-            put(row, column, at(row, column) + by);
+            int index = row * columns + column;
+            if (index >= 0 && index < cells.length) {
+                cells[index] += by;
+            }
         }
 
         void clear() {
@@ -680,7 +678,7 @@ public final class RustTiles {
             return order.at(0, taken + place);
         }
 
-        int gameNumber(int what) {
+        int numberOf(int what, int savedStates) {
             switch (what) {
                 case 0: return playerCount;
                 case 1: return onMove;
@@ -693,6 +691,7 @@ public final class RustTiles {
                 case 8: return winner();
                 case 9: return refusals;
                 case 10: return lot;
+                case 11: return savedStates;
                 default: return NONE;
             }
         }
@@ -831,8 +830,9 @@ public final class RustTiles {
 
     /** The trains of one hand, as it was when it was taken. */
     private static final class Trains {
+        // Both halves of each tile; here and below a grade is a bit, so that several stand in one number.
         private final Table halves = new Table(MOST_IN_TRAIN, 2);
-        // For each choice of tiles, a bit a tile, the grades, a bit a grade, that their trains leave open.
+        // For each choice of tiles, a bit a tile, the grades that trains of all of them leave open.
         private final int[] open = new int[1 << MOST_IN_TRAIN];
         private int size;
 
@@ -844,8 +844,8 @@ public final class RustTiles {
             size = game.heldBy(player);
             for (int i = 0; i < size && i < MOST_IN_TRAIN; i++) {
                 int tile = game.hands.at(player, i);
-                halves.put(i, FIRST, game.tiles.at(tile, FIRST));
-                halves.put(i, SECOND, game.tiles.at(tile, SECOND));
+                halves.put(i, FIRST, 1 << game.tiles.at(tile, FIRST));
+                halves.put(i, SECOND, 1 << game.tiles.at(tile, SECOND));
             }
         }
 
@@ -860,9 +860,8 @@ public final class RustTiles {
             }
             int choices = 1 << size;
             for (int choice = 0; choice < choices && choice < open.length; choice++) {
-                open[choice] = 0;
+                open[choice] = choice == 0 ? 1 << grade : 0;
             }
-            open[0] = 1 << grade;
             for (int choice = 0; choice < choices && choice < open.length; choice++) {
                 if (open[choice] != 0) {
                     goOnFrom(choice);
@@ -880,8 +879,8 @@ public final class RustTiles {
         }
 
         private int openBehind(int i, int before) {
-            int first = 1 << halves.at(i, FIRST);
-            int second = 1 << halves.at(i, SECOND);
+            int first = halves.at(i, FIRST);
+            int second = halves.at(i, SECOND);
             int behind = 0;
             if ((before & first) != 0) {
                 behind |= second;
@@ -940,8 +939,7 @@ public final class RustTiles {
         private boolean oddGradesAllow(int grade) {
             int odd = 0;
             for (int i = 0; i < size; i++) {
-                odd ^= 1 << halves.at(i, FIRST);
-                odd ^= 1 << halves.at(i, SECOND);
+                odd ^= halves.at(i, FIRST) ^ halves.at(i, SECOND);
             }
             return odd == 0 || (Integer.bitCount(odd) == 2 && (odd & (1 << grade)) != 0);
         }
@@ -1023,36 +1021,32 @@ public final class RustTiles {
 
         // Only for a text that tells turns: then each character has one meaning, wherever it stands.
         int makeTurns(Game game) {
-            int made = 0;
+            int begun = 0;
             int place = 0;
             int row = 0;
             for (int i = 0; i < length && i < codes.length && game != null; i++) {
                 char code = codes[i];
-                if (code == 'l') {
+                int refusals = game.refusals;
+                if (code == 'l' || code == 'd' || code == 'p') {
+                    begun++;
                     place = 0;
-                } else if (code >= '0' && code <= '9') {
+                }
+                if (code >= '0' && code <= '9') {
                     place = place * 10 + code - '0';
                 } else if (code >= 'a' && code <= 'c') {
                     row = code - 'a';
-                } else if (code != ';') {
-                    if (!makesTurn(game, code, place, row)) {
-                        return made;
-                    }
-                    made++;
+                } else if (code == '<' || code == '>') {
+                    game.turnToLay(place, row, code == '<' ? 0 : 1);
+                } else if (code == 'd') {
+                    game.turnToDraw();
+                } else if (code == 'p') {
+                    game.turnToPass();
+                }
+                if (game.refusals > refusals) {
+                    return begun - 1;
                 }
             }
-            return made;
-        }
-
-        // The character is the last one of a turn.
-        private static boolean makesTurn(Game game, char code, int place, int row) {
-            if (code == 'd') {
-                return game != null && game.turnToDraw() < DRAW_REFUSED;
-            }
-            if (code == 'p') {
-                return game != null && game.turnToPass() >= MADE;
-            }
-            return game != null && game.turnToLay(place, row, code == '<' ? 0 : 1) >= MADE;
+            return begun;
         }
 
         long mixInto(long start) {
