@@ -61,7 +61,6 @@ public final class RustTiles {
     private static final int DRAW_REFUSED = 100;
 
     private final Game game;
-    private final Table lots;
     private final Trains trains;
     private final Text text;
     private final Past past;
@@ -69,12 +68,11 @@ public final class RustTiles {
 
     public RustTiles() {
         game = new Game();
-        lots = new Table(1, TILES);
         trains = new Trains();
         text = new Text();
         past = new Past();
         slots = new Game[SLOTS];
-        game.start(LEAST_PLAYERS, 1, lots);
+        game.start(LEAST_PLAYERS, 1);
     }
 
     // ---- the game
@@ -84,7 +82,7 @@ public final class RustTiles {
             throw new IllegalArgumentException("no such players or lot");
         }
         past.remember(game);
-        game.start(players, x, lots);
+        game.start(players, x);
         return game.stockSize();
     }
 
@@ -455,7 +453,7 @@ public final class RustTiles {
 
         // -- beginning
 
-        void start(int players, int x, Table lots) {
+        void start(int players, int x) {
             playerCount = players;
             onMove = 0;
             taken = 0;
@@ -465,7 +463,7 @@ public final class RustTiles {
             tallies.clear();
             makeTiles();
             makeRows();
-            orderStock(x, lots);
+            orderStock(x);
             deal();
         }
 
@@ -493,24 +491,25 @@ public final class RustTiles {
             }
         }
 
-        private void orderStock(int x, Table lots) {
+        private void orderStock(int x) {
             lot = x;
             for (int tile = 0; tile < TILES; tile++) {
                 lot = (lot * 421 + 1663) % LOTS;
-                insertByLot(tile, lots);
+                insertInOrder(lot * TILES + tile, tile);
+            }
+            for (int place = 0; place < TILES; place++) {
+                order.put(0, place, order.at(0, place) % TILES);
             }
         }
 
-        // A tile goes behind those with the same lot, as they have lower numbers.
-        private void insertByLot(int tile, Table lots) {
-            int place = tile;
-            while (place > 0 && lots.at(0, place - 1) > lot) {
-                lots.put(0, place, lots.at(0, place - 1));
+        // The lot and the tile are one number here, so that of several with the same lot the lowest tile comes first.
+        private void insertInOrder(int lotAndTile, int size) {
+            int place = size;
+            while (place > 0 && order.at(0, place - 1) > lotAndTile) {
                 order.put(0, place, order.at(0, place - 1));
                 place--;
             }
-            lots.put(0, place, lot);
-            order.put(0, place, tile);
+            order.put(0, place, lotAndTile);
         }
 
         private void deal() {

@@ -64,12 +64,6 @@ public final class PromiseTest {
         checks.due(what, want, got);
     }
 
-    private static void write(RustTiles x, String text) {
-        for (char c : text.toCharArray()) {
-            x.append(c);
-        }
-    }
-
     private static void dueHand(RustTiles x, int player, int... tiles) {
         for (int place = 0; place < tiles.length; place++) {
             due("hand of " + player + " at " + place, tiles[place], x.hand(player, place));
@@ -87,25 +81,6 @@ public final class PromiseTest {
         due("row " + row + " end 0", end0, x.rowOf(row, 1));
         due("row " + row + " end 1", end1, x.rowOf(row, 2));
         due("row " + row + " last", last, x.rowOf(row, 3));
-    }
-
-    /** Player 0 lays all tiles while player 1 draws, and nothing rusts. */
-    private static RustTiles overByLaying() {
-        RustTiles x = new RustTiles();
-        x.set(9);
-        write(x, "l0a<;d;l0a>;d;l2a>;d;l1a>;d");
-        due("turns made", 8, x.run());
-        due("last lay", 11, x.lay(0, 1, 0));
-        return x;
-    }
-
-    private static RustTiles withEmptyStock() {
-        RustTiles x = new RustTiles();
-        x.set(9);
-        for (int i = 0; i < 18; i++) {
-            x.draw();
-        }
-        return x;
     }
 
     // ---- promise 1
@@ -235,7 +210,7 @@ public final class PromiseTest {
     }
 
     private static void layEndsTheGame() {
-        RustTiles x = overByLaying();
+        RustTiles x = Games.overByLaying();
         due("nobody on the move", -1, x.count(1));
         due("turns", 9, x.count(5));
         due("winner", 0, x.count(8));
@@ -312,7 +287,7 @@ public final class PromiseTest {
         dueHand(x, 0, 24, 17, 20, 4, 2, 19);
         due("drawn", 1, x.playerOf(0, 5));
         due("saved", 2, x.count(11));
-        RustTiles empty = withEmptyStock();
+        RustTiles empty = Games.withEmptyStock();
         due("stock is empty", 0, empty.count(2));
         due("draw from nothing", 104, empty.draw());
         due("refused", 1, empty.count(9));
@@ -320,7 +295,7 @@ public final class PromiseTest {
         empty.pass();
         empty.pass();
         due("over goes ahead of no stock", 101, empty.draw());
-        RustTiles over = overByLaying();
+        RustTiles over = Games.overByLaying();
         due("draw when over", 101, over.draw());
         over.undo();
         due("undone refusal", 0, over.count(9));
@@ -338,7 +313,7 @@ public final class PromiseTest {
             x.draw();
         }
         due("there is one tile of stock", 5, x.pass());
-        RustTiles empty = withEmptyStock();
+        RustTiles empty = Games.withEmptyStock();
         empty.set(5);
         due("first pass", 10, empty.pass());
         due("passes", 1, empty.count(6));
@@ -349,7 +324,7 @@ public final class PromiseTest {
         due("passes", 2, empty.count(6));
         due("nobody on the move", -1, empty.count(1));
         due("pass when over", 1, empty.pass());
-        RustTiles over = overByLaying();
+        RustTiles over = Games.overByLaying();
         due("over goes ahead of a stock", 1, over.pass());
         RustTiles three = new RustTiles();
         three.begin(3, 0);
@@ -362,7 +337,7 @@ public final class PromiseTest {
     }
 
     private static void passesBrokenByLaying() {
-        RustTiles x = withEmptyStock();
+        RustTiles x = Games.withEmptyStock();
         x.pass();
         due("lay behind a pass", 10, x.lay(0, 0, 0));
         due("passes are broken", 0, x.count(6));
@@ -394,7 +369,7 @@ public final class PromiseTest {
             checks.thrown("oil(" + place + ")", INDEX, () -> x.oil(place));
         }
         due("nothing is changed", before, x.digest());
-        RustTiles over = overByLaying();
+        RustTiles over = Games.overByLaying();
         int saved = over.count(11);
         due("oil when over", -1, over.oil(0));
         due("oil nowhere when over", -1, over.oil(-1));
@@ -444,7 +419,7 @@ public final class PromiseTest {
     private static void clearBuffer() {
         RustTiles x = new RustTiles();
         due("of nothing", 0, x.clearBuffer());
-        write(x, "l0a");
+        Games.write(x, "l0a");
         due("of three", 3, x.clearBuffer());
         due("of nothing again", 0, x.clearBuffer());
         due("no error left", 0, x.firstError());
@@ -499,7 +474,7 @@ public final class PromiseTest {
 
     private static void dueError(String text, int want) {
         RustTiles x = new RustTiles();
-        write(x, text);
+        Games.write(x, text);
         due("first error of " + text, want, x.firstError());
         due("the buffer stays " + text, text.length(), x.clearBuffer());
     }
@@ -508,7 +483,7 @@ public final class PromiseTest {
 
     private static void run() {
         RustTiles x = new RustTiles();
-        write(x, "l0a<;d;l0a>");
+        Games.write(x, "l0a<;d;l0a>");
         due("run", 3, x.run());
         due("the buffer is cleared", 0, x.clearBuffer());
         dueRow(x, 0, 2, 4, 2, 17);
@@ -520,53 +495,53 @@ public final class PromiseTest {
         due("the buffer is not undone", 0, x.clearBuffer());
         dueRow(x, 0, 0, -1, -1, -1);
         for (String text : new String[] {"", "l", "l0", "l0a", "d;", "x", "dd", "l28a<", "d;l0a<;"}) {
-            write(x, text);
+            Games.write(x, text);
             checks.thrown("run " + text, ARGUMENT, x::run);
             due("the buffer stays", text.length(), x.clearBuffer());
         }
         due("nothing is saved", 0, x.count(11));
         due("no turns made", 0, x.count(5));
-        RustTiles passing = withEmptyStock();
-        write(passing, "p;p");
+        RustTiles passing = Games.withEmptyStock();
+        Games.write(passing, "p;p");
         due("run passes", 2, passing.run());
         due("over", -1, passing.count(1));
     }
 
     private static void runRefused() {
         RustTiles x = new RustTiles();
-        write(x, "l0c>;l0c>;d;d");
+        Games.write(x, "l0c>;l0c>;d;d");
         due("up to the refused one", 1, x.run());
         due("refused is counted once", 1, x.count(9));
         due("turns", 1, x.count(5));
         due("the buffer is cleared", 0, x.clearBuffer());
-        write(x, "p;d");
+        Games.write(x, "p;d");
         due("none made", 0, x.run());
         due("saved also if none is made", 2, x.count(11));
         due("refused", 2, x.count(9));
         x.undo();
         due("refused is undone", 1, x.count(9));
-        RustTiles over = withEmptyStock();
-        write(over, "d");
+        RustTiles over = Games.withEmptyStock();
+        Games.write(over, "d");
         due("draw is refused", 0, over.run());
-        write(over, "p;p;p;p");
+        Games.write(over, "p;p;p;p");
         due("over by the second", 2, over.run());
         due("refused", 2, over.count(9));
     }
 
     private static void runPlacesOfTwoDigits() {
-        RustTiles x = withEmptyStock();
-        write(x, "l13a<;l12b>;l10b<");
+        RustTiles x = Games.withEmptyStock();
+        Games.write(x, "l13a<;l12b>;l10b<");
         due("run", 2, x.run());
         dueRow(x, 0, 1, 1, 5, 11);
         dueRow(x, 1, 1, 0, 5, 5);
         due("the third does not match", 1, x.count(9));
-        write(x, "l27c<");
+        Games.write(x, "l27c<");
         due("no such place", 0, x.run());
-        write(x, "l9c<");
+        Games.write(x, "l9c<");
         due("place 9", 1, x.run());
         dueRow(x, 2, 1, 2, 3, 14);
         x.undo();
-        write(x, "l11b<");
+        Games.write(x, "l11b<");
         due("place 11", 1, x.run());
         dueRow(x, 1, 2, 6, 5, 6);
     }
@@ -584,7 +559,7 @@ public final class PromiseTest {
         x.begin(4, 7);
         x.set(5);
         x.pass();
-        write(x, "d;d");
+        Games.write(x, "d;d");
         due("goBack(0)", 18, x.goBack(0));
         due("players", 2, x.count(0));
         due("setting", 2, x.setting());
@@ -672,9 +647,9 @@ public final class PromiseTest {
     private static void allIsRestored() {
         RustTiles x = new RustTiles();
         x.set(4);
-        write(x, "l0a<;l4a<;d;d;d;d;d;d;d;d;d;d;d;d;d;d;d;d;d;d;d;d");
+        Games.write(x, "l0a<;l4a<;d;d;d;d;d;d;d;d;d;d;d;d;d;d;d;d;d;d;d;d");
         due("turns of the text", 20, x.run());
-        write(x, "p;l12b>;p;d");
+        Games.write(x, "p;l12b>;p;d");
         due("turns of the next text", 3, x.run());
         due("a pass is open", 1, x.count(6));
         long before = x.digest();
@@ -766,7 +741,7 @@ public final class PromiseTest {
         due("far behind", -1, x.stock(MAX));
         checks.thrown("stock(-1)", ARGUMENT, () -> x.stock(-1));
         checks.thrown("stock(MIN)", ARGUMENT, () -> x.stock(MIN));
-        due("of an empty stock", -1, withEmptyStock().stock(0));
+        due("of an empty stock", -1, Games.withEmptyStock().stock(0));
     }
 
     // ---- promise 18
@@ -802,7 +777,7 @@ public final class PromiseTest {
         x.lay(0, 1, 0);
         due("4, 6, 0, 0 and an empty row", 5, x.playerOf(0, 6));
         due("4, 6 and an empty row", 3, x.playerOf(1, 6));
-        RustTiles over = overByLaying();
+        RustTiles over = Games.overByLaying();
         due("a hand without tiles", 0, over.playerOf(0, 6));
         // The rows are open with 4, 4, 3 and 5.
         due("as if on the move", 5, over.playerOf(1, 6));
@@ -857,14 +832,14 @@ public final class PromiseTest {
     }
 
     private static void winner() {
-        RustTiles x = withEmptyStock();
+        RustTiles x = Games.withEmptyStock();
         due("not over", -1, x.count(8));
         x.pass();
         x.pass();
         due("the sum of 0", 91, x.playerOf(0, 3));
         due("the sum of 1", 77, x.playerOf(1, 3));
         due("the least sum", 1, x.count(8));
-        due("the least sum of one who laid", 0, overByLaying().count(8));
+        due("the least sum of one who laid", 0, Games.overByLaying().count(8));
         dueWinnerOfDrawing(2, 22, 0);
         dueWinnerOfDrawing(3, 35, 1);
         dueWinnerOfDrawing(4, 100, 0);
@@ -916,7 +891,7 @@ public final class PromiseTest {
         for (int end : new int[] {-1, 2, MIN, MAX}) {
             checks.thrown("end " + end, ARGUMENT, () -> x.whyNot(0, 1, end));
         }
-        RustTiles over = overByLaying();
+        RustTiles over = Games.overByLaying();
         due("over", 1, over.whyNot(0, 2, 0));
         due("over ahead of the place", 1, over.whyNot(-1, 2, 0));
         checks.thrown("row ahead of over", INDEX, () -> over.whyNot(0, 3, 0));
@@ -946,7 +921,7 @@ public final class PromiseTest {
         for (int grade : new int[] {-1, 7, MIN, MAX}) {
             checks.thrown("longest(0, " + grade + ")", ARGUMENT, () -> x.longest(0, grade));
         }
-        due("of a hand without tiles", 0, overByLaying().longest(0, 4));
+        due("of a hand without tiles", 0, Games.overByLaying().longest(0, 4));
     }
 
     // ---- promise 24
@@ -955,7 +930,7 @@ public final class PromiseTest {
         RustTiles x = new RustTiles();
         x.set(9);
         dueWhole(x, 0, 0, 0, 0, 0, 0, 0, 0);
-        write(x, "d;l0a<;l0b<;l3c<");
+        Games.write(x, "d;l0a<;l0b<;l3c<");
         due("turns", 4, x.run());
         // Player 1 has 5-6 2-2 2-5.
         dueWhole(x, 1, 0, 0, 1, 0, 0, 0, 1);
@@ -964,7 +939,7 @@ public final class PromiseTest {
         ring.lay(2, 0, 0);
         // Player 0 has 4-6 2-6 0-4 0-2.
         dueWhole(ring, 0, 1, 0, 1, 0, 1, 0, 1);
-        dueWhole(overByLaying(), 0, 1, 1, 1, 1, 1, 1, 1);
+        dueWhole(Games.overByLaying(), 0, 1, 1, 1, 1, 1, 1, 1);
         RustTiles apart = new RustTiles();
         apart.set(9);
         apart.draw();
@@ -1029,7 +1004,7 @@ public final class PromiseTest {
         RustTiles filled = new RustTiles();
         filled.set(9);
         // Rows open with 0 0, 0 2 and 0 4.
-        write(filled, "l4a<;l0b<;l3c<");
+        Games.write(filled, "l4a<;l0b<;l3c<");
         due("turns", 3, filled.run());
         due("of 5-6 2-2 2-5 4-4 that fit 0 2 4: 4-4", 3, filled.advice());
         filled.draw();
@@ -1045,8 +1020,8 @@ public final class PromiseTest {
         dueAdvice("l2b<;l0c<;l0a<;l0b>;d", 2);
         // Rows open with 4 6, 3 2 and 0 0: 5-6 fits at one end alone.
         dueAdvice("l2b<;l0c<;l0a<;l2b>;d", 0);
-        due("over", -1, overByLaying().advice());
-        RustTiles passed = withEmptyStock();
+        due("over", -1, Games.overByLaying().advice());
+        RustTiles passed = Games.withEmptyStock();
         passed.pass();
         passed.pass();
         due("over with empty rows", -1, passed.advice());
@@ -1055,7 +1030,7 @@ public final class PromiseTest {
     private static void dueAdvice(String text, int want) {
         RustTiles x = new RustTiles();
         x.set(9);
-        write(x, text);
+        Games.write(x, text);
         due("turns of " + text, 5, x.run());
         due("advice behind " + text, want, x.advice());
     }
@@ -1099,86 +1074,47 @@ public final class PromiseTest {
     // ---- promise 28
 
     private static void digest() {
-        RustTiles x = new RustTiles();
-        due("the digest of a new object", -3818730031204147288L, x.digest());
-        dueDigest(x, 0, 0, "");
-        x.set(1);
-        for (int i = 0; i < 12; i++) {
-            x.draw();
-            dueDigest(x, 0, 0, "");
+        due("the digest of a new object", -3818730031204147288L, new RustTiles().digest());
+        dueDigest(new RustTiles(), 0, 0, "");
+        for (int turns = 1; turns <= 12; turns++) {
+            RustTiles drawn = new RustTiles();
+            drawn.set(1);
+            Games.draw(drawn, turns);
+            dueDigest(drawn, 0, 0, "");
         }
+        RustTiles x = new RustTiles();
         x.keep(1);
-        dueDigest(x, 0, 1, "");
-        x.keep(0);
-        dueDigest(x, 1, 1, "");
-        write(x, "l0a<;~");
-        dueDigest(x, 1, 1, "l0a<;~");
+        Games.write(x, "l0a<;~");
         x.begin(4, 77);
         x.lay(0, 0, 0);
         x.lay(1, 0, 0);
-        dueDigest(x, 1, 1, "l0a<;~");
+        dueDigest(x, 0, 1, "l0a<;~");
+        x = new RustTiles();
+        x.keep(0);
+        Games.write(x, "l0a<;~");
+        x.draw();
         x.undo();
         x.clearBuffer();
-        dueDigest(x, 1, 1, "");
-        dueDigest(overByLaying(), 0, 0, "");
+        dueDigest(x, 1, 0, "");
+        dueDigest(Games.overByLaying(), 0, 0, "");
     }
 
     // The slots and the buffer cannot be looked at, so they are told.
     private static void dueDigest(RustTiles x, int slot0, int slot1, String text) {
-        long hash = 3463;
-        for (int what = 0; what < 12; what++) {
-            hash = 31 * hash + x.count(what);
-        }
-        hash = 31 * hash + x.setting();
-        for (int tile = 0; tile < 28; tile++) {
-            for (int what = 0; what < 7; what++) {
-                hash = 31 * hash + x.tileOf(tile, what);
-            }
-        }
-        for (int player = 0; player < x.count(0); player++) {
-            for (int what = 0; what < 7; what++) {
-                hash = 31 * hash + x.playerOf(player, what);
-            }
-            for (int place = 0; place < x.playerOf(player, 0); place++) {
-                hash = 31 * hash + x.hand(player, place);
-            }
-            for (int grade = 0; grade < 7; grade++) {
-                hash = 31 * hash + x.longest(player, grade);
-                hash = 31 * hash + x.whole(player, grade, 0);
-                hash = 31 * hash + x.whole(player, grade, 1);
-            }
-        }
-        for (int row = 0; row < 3; row++) {
-            for (int what = 0; what < 4; what++) {
-                hash = 31 * hash + x.rowOf(row, what);
-            }
-        }
-        for (int place = 0; place < x.count(2); place++) {
-            hash = 31 * hash + x.stock(place);
-        }
-        hash = 31 * hash + x.advice();
-        hash = 31 * hash + x.commonest();
-        hash = 31 * hash + Double.doubleToLongBits(x.rustShare());
-        hash = 31 * hash + slot0;
-        hash = 31 * hash + slot1;
-        hash = 31 * hash + text.length();
-        for (char c : text.toCharArray()) {
-            hash = 31 * hash + c;
-        }
-        due("digest", hash, x.digest());
+        due("digest", DigestOf.all(x, slot0, slot1, text), x.digest());
     }
 
     // ---- looks
 
     private static void looksChangeNothing() {
-        RustTiles x = overByLaying();
+        RustTiles x = Games.overByLaying();
         dueLooksQuiet(x);
         dueLooksQuiet(new RustTiles());
-        dueLooksQuiet(withEmptyStock());
+        dueLooksQuiet(Games.withEmptyStock());
     }
 
     private static void dueLooksQuiet(RustTiles x) {
-        write(x, "d;p");
+        Games.write(x, "d;p");
         long before = x.digest();
         x.tileOf(3, 4);
         x.hand(1, 2);
