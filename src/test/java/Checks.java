@@ -4,12 +4,28 @@ final class Checks {
         long answer();
     }
 
+    private static final long LONGEST = 300_000;
+
     private final String name;
     private int made;
     private int wrong;
 
     Checks(String name) {
         this.name = name;
+        Thread watch = new Thread(this::endLate);
+        watch.setDaemon(true);
+        watch.start();
+    }
+
+    // A call that does not end would keep all that waits for the tests waiting.
+    private void endLate() {
+        try {
+            Thread.sleep(LONGEST);
+        } catch (InterruptedException e) {
+            return;
+        }
+        System.out.println(name + ": has not ended behind " + LONGEST + " milliseconds");
+        Runtime.getRuntime().halt(1);
     }
 
     void due(String what, long want, long got) {

@@ -89,6 +89,15 @@ final class EdgesOfTexts {
             s.due("no error", 0, x.firstError());
             s.dueThrows("no turns", Sentences.ARGUMENT, x, y -> y.run());
             s.dueNotUndoable("clearBuffer", Games::full, y -> y.clearBuffer());
+            RustTiles again = with("d".repeat(60));
+            again.clearBuffer();
+            again.append('d');
+            s.due("nothing is left behind what is written then", 1, again.run());
+            s.due("one turn", 1, again.count(5));
+            RustTiles part = with("l0a<");
+            part.clearBuffer();
+            Games.write(part, "l0");
+            s.dueThrows("nor is a turn made whole by it", Sentences.ARGUMENT, part, y -> y.run());
             RustTiles full = Games.full();
             full.clearBuffer();
             s.dueAlike("clearBuffer", Games.full(), full, "firstError()");

@@ -285,7 +285,10 @@ final class EdgesOfWhatWouldBe {
             full.lay(3, 2, 1);
             // The rows are open still; player 0 has 4-6 2-6 3-5.
             s.due("4-6", 0, full.advice());
-            s.due("5-6 at one end of one row alone", 0, Games.behind("l2b<;l0c<;l0a<;l2b>;d").advice());
+            // The rows are open with 4 6, 3 2 and 0 0: 5-6 fits at the end 1 of one row alone.
+            s.due("5-6 at an end 1", 0, Games.behind("l2b<;l0c<;l0a<;l2b>;d").advice());
+            // The rows are open with 4 6, 3 6 and 0 0: of 2-2 2-5 4-4 the last fits at the end 0 of one row alone.
+            s.due("4-4 at an end 0", 2, Games.behind("l2b<;l0c<;l0a<;l0b>;d").advice());
             s.due("the last place", 4, lastPlace().advice());
             RustTiles rusted = Games.with(1);
             rusted.draw();
